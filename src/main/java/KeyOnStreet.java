@@ -237,7 +237,7 @@ public final class KeyOnStreet {
             return STATE;
         }
         trial.begin();
-        trial.key.put(now.key.place, 0, 0);
+        trial.key.place = now.key.place;
         int drawn = seed;
         for (int i = 0; i < nights; i++) {
             drawn = goThroughNight(drawn);

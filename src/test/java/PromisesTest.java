@@ -508,7 +508,8 @@ public final class PromisesTest {
         promise = 16;
         due("shortest() without a town", new KeyOnStreet().shortest(), STATE);
         KeyOnStreet x = inUse();
-        due("shortest()", x.shortest(), 11);
+        x.best(0);
+        due("shortest(), not the best round", x.shortest(), 11);
         x.shut(3, true);
         due("shortest(), a midwife first", x.shortest(), 26);
         x = in(STREET);
@@ -574,6 +575,20 @@ public final class PromisesTest {
         x.shut(1, true);
         x.shut(2, true);
         due("twoKeys(), both kept by lovers", x.twoKeys(), 15);
+        x = in("l319,l319,h491,h491");
+        x.pass(2);
+        for (int house = 0; house < 4; house++) {
+            x.shut(house, true);
+        }
+        x.best(0);
+        due("twoKeys(), whoever is late", x.twoKeys(), 8);
+        x = in("m911,m011,h711,h211");
+        x.lay(5);
+        for (int house = 0; house < 4; house++) {
+            x.shut(house, true);
+        }
+        x.best(0);
+        due("twoKeys(), nobody waits for midwives", x.twoKeys(), 7);
     }
 
     private static void sees() {
@@ -673,6 +688,21 @@ public final class PromisesTest {
         }
         due("count(1)", x.count(1), 0);
         due("count(2)", x.count(2), 0);
+        // By seeds 0 and 7 nobody is shut out: the key stays where it was laid.
+        x.lay(4);
+        due("nights(1, 0, 1)", x.nights(1, 0, 1), placeAfterOneNight(0, 4));
+        due("nights(1, 5, 1)", x.nights(1, 5, 1), placeAfterOneNight(5, 4));
+        due("nights(1, 7, 1)", x.nights(1, 7, 1), placeAfterOneNight(7, 4));
+    }
+
+    private static int placeAfterOneNight(int seed, int place) {
+        BigInteger s = BigInteger.valueOf(seed);
+        boolean somebody = false;
+        for (int house = 0; house < 3; house++) {
+            s = s.multiply(FACTOR).add(MORE).mod(REST);
+            somebody |= s.shiftRight(16).testBit(0);
+        }
+        return somebody ? 9 : place;
     }
 
     /** With all at one door what is late follows from how many are out, by whichever law. */
