@@ -1,14 +1,8 @@
 import java.math.BigInteger;
 
 /** Each promise by itself: ordinary inputs, the edges that the document names, wrong inputs. */
-public final class PromisesTest {
-    private static final int NONE = -1, UNKNOWN = -101, OUTSIDE = -102, STATE = -103, FULL = -104;
+public final class PromisesTest extends Checks {
     private static final int[] WRONG = {Integer.MIN_VALUE, -1, 100, Integer.MAX_VALUE};
-    /** A house of each kind; the dues below are worked out by hand from these. */
-    private static final String STREET = "h215,w533,l722,m914,i611";
-
-    private static int promise;
-    private static int wrong;
 
     public static void main(String[] args) {
         newObject();
@@ -38,28 +32,7 @@ public final class PromisesTest {
         restores();
         counts();
         digests();
-        System.out.println(wrong == 0 ? "promises hold" : wrong + " answers are wrong");
-        System.exit(wrong == 0 ? 0 : 1);
-    }
-
-    private static void due(String call, long got, long want) {
-        if (got != want) {
-            wrong++;
-            System.out.println("promise " + promise + ": " + call + " answered " + got + ", due is " + want);
-        }
-    }
-
-    private static void write(KeyOnStreet x, String text) {
-        for (int i = 0; i < text.length(); i++) {
-            x.letter(text.charAt(i));
-        }
-    }
-
-    private static KeyOnStreet in(String town) {
-        KeyOnStreet x = new KeyOnStreet();
-        write(x, town);
-        due("town() of " + town, x.town(), (town.length() + 1) / 5);
-        return x;
+        end(1, 26);
     }
 
     /** Minute 2, the key at 0; the inn is shut out since 1; house, widow and lovers since 2. */
@@ -75,7 +48,7 @@ public final class PromisesTest {
     }
 
     private static void newObject() {
-        promise = 1;
+        says(1, "A new object");
         due("NONE", KeyOnStreet.NONE, NONE);
         due("UNKNOWN", KeyOnStreet.UNKNOWN, UNKNOWN);
         due("OUTSIDE", KeyOnStreet.OUTSIDE, OUTSIDE);
@@ -94,7 +67,7 @@ public final class PromisesTest {
     }
 
     private static void letters() {
-        promise = 2;
+        says(2, "letter");
         KeyOnStreet x = new KeyOnStreet();
         due("letter(0)", x.letter(0), OUTSIDE);
         due("letter(127)", x.letter(127), OUTSIDE);
@@ -111,7 +84,7 @@ public final class PromisesTest {
     }
 
     private static void blanks() {
-        promise = 3;
+        says(3, "blank");
         KeyOnStreet x = new KeyOnStreet();
         due("blank()", x.blank(), 0);
         write(x, "h215");
@@ -129,7 +102,7 @@ public final class PromisesTest {
     }
 
     private static void faults() {
-        promise = 4;
+        says(4, "fault");
         faultOf("", 0);
         faultOf("x", 0);
         faultOf("H", 0);
@@ -164,7 +137,7 @@ public final class PromisesTest {
     }
 
     private static void towns() {
-        promise = 5;
+        says(5, "town");
         noTown("");
         noTown("h111,h111");
         noTown("h111,h111,");
@@ -205,7 +178,7 @@ public final class PromisesTest {
     }
 
     private static void abouts() {
-        promise = 6;
+        says(6, "about");
         KeyOnStreet x = in(STREET);
         int[][] told = {{0, 2, 1, 5}, {3, 5, 3, 3}, {4, 7, 2, 2}, {1, 9, 1, 4}, {2, 6, 1, 1}};
         int[] atFirst = {NONE, NONE, 0, 0};
@@ -224,7 +197,7 @@ public final class PromisesTest {
     }
 
     private static void casts() {
-        promise = 7;
+        says(7, "as");
         KeyOnStreet x = in(STREET);
         String[] kinds = {"h", "hw", "hwl", "hm", "hi"};
         for (int house = 0; house < 5; house++) {
@@ -242,7 +215,7 @@ public final class PromisesTest {
     }
 
     private static void shuts() {
-        promise = 8;
+        says(8, "shut");
         KeyOnStreet x = in(STREET);
         x.pass(3);
         due("shut(1, false)", x.shut(1, false), 0);
@@ -264,7 +237,7 @@ public final class PromisesTest {
     }
 
     private static void lays() {
-        promise = 9;
+        says(9, "lay");
         KeyOnStreet x = new KeyOnStreet();
         due("lay(10) without a town", x.lay(10), OUTSIDE);
         due("lay(3) without a town", x.lay(3), STATE);
@@ -289,7 +262,7 @@ public final class PromisesTest {
     }
 
     private static void passes() {
-        promise = 10;
+        says(10, "pass");
         KeyOnStreet x = new KeyOnStreet();
         due("pass(31) without a town", x.pass(31), OUTSIDE);
         due("pass(1) without a town", x.pass(1), STATE);
@@ -311,7 +284,7 @@ public final class PromisesTest {
     }
 
     private static void opens() {
-        promise = 11;
+        says(11, "open");
         KeyOnStreet x = in(STREET);
         due("open(1), not shut out", x.open(1), STATE);
         due("open(5)", x.open(5), UNKNOWN);
@@ -373,7 +346,7 @@ public final class PromisesTest {
     }
 
     private static void nightFalls() {
-        promise = 12;
+        says(12, "night");
         due("night() without a town", new KeyOnStreet().night(), STATE);
         KeyOnStreet x = in(STREET);
         due("night()", x.night(), 0);
@@ -403,7 +376,7 @@ public final class PromisesTest {
     }
 
     private static void nexts() {
-        promise = 13;
+        says(13, "next");
         KeyOnStreet x = new KeyOnStreet();
         due("next(3) without a town", x.next(3), OUTSIDE);
         due("next(0) without a town", x.next(0), STATE);
@@ -432,7 +405,7 @@ public final class PromisesTest {
     }
 
     private static void bys() {
-        promise = 14;
+        says(14, "by");
         KeyOnStreet x = new KeyOnStreet();
         due("by(0, 3) without a town", x.by(0, 3), OUTSIDE);
         due("by(0, 0) without a town", x.by(0, 0), STATE);
@@ -464,7 +437,7 @@ public final class PromisesTest {
     }
 
     private static void bests() {
-        promise = 15;
+        says(15, "best");
         KeyOnStreet x = new KeyOnStreet();
         due("best(2) without a town", x.best(2), OUTSIDE);
         due("best(0) without a town", x.best(0), STATE);
@@ -505,7 +478,7 @@ public final class PromisesTest {
     }
 
     private static void shortests() {
-        promise = 16;
+        says(16, "shortest");
         due("shortest() without a town", new KeyOnStreet().shortest(), STATE);
         KeyOnStreet x = inUse();
         x.best(0);
@@ -522,7 +495,7 @@ public final class PromisesTest {
     }
 
     private static void hangs() {
-        promise = 17;
+        says(17, "hang");
         KeyOnStreet x = new KeyOnStreet();
         due("hang() without a town", x.hang(), STATE);
         due("count(10)", x.count(10), 0);
@@ -552,7 +525,7 @@ public final class PromisesTest {
     }
 
     private static void twoKeys() {
-        promise = 18;
+        says(18, "twoKeys");
         due("twoKeys() without a town", new KeyOnStreet().twoKeys(), STATE);
         KeyOnStreet x = in(STREET);
         x.pass(8);
@@ -592,7 +565,7 @@ public final class PromisesTest {
     }
 
     private static void sees() {
-        promise = 19;
+        says(19, "see");
         KeyOnStreet x = in(STREET);
         due("see(5, 0, true)", x.see(5, 0, true), UNKNOWN);
         due("see(5, 1000, true)", x.see(5, 1000, true), UNKNOWN);
@@ -610,7 +583,7 @@ public final class PromisesTest {
     }
 
     private static void forgets() {
-        promise = 20;
+        says(20, "forget");
         KeyOnStreet x = in(STREET);
         due("forget()", x.forget(), 0);
         x.see(0, 1, true);
@@ -622,7 +595,7 @@ public final class PromisesTest {
     }
 
     private static void guesses() {
-        promise = 21;
+        says(21, "guess");
         KeyOnStreet x = new KeyOnStreet();
         due("guess(2) without a town", x.guess(2), OUTSIDE);
         due("guess(0) without a town", x.guess(0), STATE);
@@ -672,7 +645,7 @@ public final class PromisesTest {
     private static final BigInteger REST = BigInteger.ONE.shiftLeft(31);
 
     private static void drawnNights() {
-        promise = 22;
+        says(22, "nights");
         KeyOnStreet x = new KeyOnStreet();
         due("nights(0, 0, 0) without a town", x.nights(0, 0, 0), OUTSIDE);
         due("nights(1, 0, 0) without a town", x.nights(1, 0, 0), STATE);
@@ -728,7 +701,7 @@ public final class PromisesTest {
     }
 
     private static void images() {
-        promise = 23;
+        says(23, "image");
         KeyOnStreet x = new KeyOnStreet();
         due("image() without a town", x.image(), STATE);
         due("restore()", x.restore(), STATE);
@@ -741,7 +714,7 @@ public final class PromisesTest {
     }
 
     private static void restores() {
-        promise = 24;
+        says(24, "restore");
         KeyOnStreet x = in(STREET);
         due("restore() without an image", x.restore(), STATE);
         x.shut(0, true);
@@ -779,7 +752,7 @@ public final class PromisesTest {
     }
 
     private static void counts() {
-        promise = 25;
+        says(25, "count");
         KeyOnStreet x = inUse();
         due("count(0)", x.count(0), 5);
         due("count(1)", x.count(1), 4);
@@ -832,7 +805,7 @@ public final class PromisesTest {
     }
 
     private static void digests() {
-        promise = 26;
+        says(26, "digest");
         KeyOnStreet x = new KeyOnStreet();
         long first = 823;
         for (int i = 0; i < 11; i++) {
