@@ -163,8 +163,9 @@ public final class NightBoundsTest extends Checks {
         for (int houses = 3; houses <= 6; houses++) {
             String text = SIX.substring(0, 5 * houses - 1);
             int last = houses - 1;
-            Supplier<KeyOnStreet> scene = () -> shutOut(in(text), 0, last);
-            refusedEach("open(#)", scene, (x, house) -> x.open(house), UNKNOWN, MIN, -1, houses, houses + 1, MAX);
+            refusedEach("open(#), nobody is", () -> in(text), (x, house) -> x.open(house), UNKNOWN, MIN, -1, houses, MAX);
+            Supplier<KeyOnStreet> scene = () -> shutOut(in(text), 0, 1, last);
+            refusedEach("open(#), a midwife is", scene, (x, house) -> x.open(house), UNKNOWN, MIN, -1, houses, houses + 1, MAX);
         }
         due("open(0), the first", shutOut(in(SIX), 0).open(0), 1);
         due("open(5), the last", shutOut(in(SIX), 5).open(5), 10);

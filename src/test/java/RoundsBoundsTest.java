@@ -336,6 +336,16 @@ public final class RoundsBoundsTest extends Checks {
         x = shutOut(in("m911,h011,m011"), 0, 1);
         due("twoKeys(), a midwife far away", x.twoKeys(), 10);
         due("shortest()", x.shortest(), 20);
+        // Each key goes its way along the street; with the midwives first both would have to turn back.
+        x = shutOut(in("m911,m011,h711,h211"), 0, 1, 2, 3);
+        x.lay(5);
+        x.best(0);
+        due("twoKeys(), midwives behind others", x.twoKeys(), 7);
+        // Lovers last is the earliest, though they are many and late by it.
+        x = shutOut(in("l319,l319,h491,h491"), 0, 1, 2, 3);
+        x.pass(2);
+        x.best(0);
+        due("twoKeys(), whoever is late", x.twoKeys(), 8);
         // One key could do it as early, as there is no minute at a widow's door.
         x = shutOut(in("w111,w211,w311,w411,w511,w611"), 0, 1, 2, 3, 4, 5);
         due("twoKeys(), all on one way", x.twoKeys(), 6);

@@ -181,15 +181,16 @@ public final class SeenBoundsTest extends Checks {
         guesses("not in by 999", x, 30, 0);
         x.see(5, 999, true);
         guesses("in by 999", x, 0, NONE);
-        x.forget();
-        x.shut(3, true);
-        x.open(3);
-        x.see(3, 999, true);
-        guesses("in before, not shut out now", x, 0, NONE);
-        x.shut(3, true);
-        guesses("shut out again", x, 30, 0);
-        x.shut(3, false);
-        guesses("not any more", x, 0, NONE);
+        for (int house = 0; house < 6; house++) {
+            x = shutOut(in(SIX), house);
+            x.open(house);
+            x.see(house, 999, true);
+            guesses(house + " in before, not shut out now", x, 0, NONE);
+            x.shut(house, true);
+            guesses(house + " shut out again", x, 30, 0);
+            x.shut(house, false);
+            guesses(house + " not any more", x, 0, NONE);
+        }
     }
 
     private static void guessFromMinuteNought() {
