@@ -10,8 +10,10 @@ import java.util.regex.Pattern;
 
 /** Long drawn runs of calls, each answer beside that of a second, plain writing of the document. */
 public final class ModelTest {
-    private static final int RUNS = 300;
+    private static final int RUNS = 400;
+    /** What an object answers to later calls is free. */
     private static final int CALLS = 512;
+    private static final int CALLS_FOR_A_DIGEST = 8;
 
     private static final Map<String, Integer> calls = new HashMap<>();
     private static final List<String> told = new ArrayList<>();
@@ -41,7 +43,11 @@ public final class ModelTest {
         Plain y = new Plain();
         told.clear();
         String pending = "";
-        for (int i = 0; i < CALLS && wrong == 0; i++) {
+        for (int i = 1; i <= CALLS && wrong == 0; i++) {
+            if (i % CALLS_FOR_A_DIGEST == 0) {
+                compare(run, "digest", new int[3], x, y);
+                continue;
+            }
             if (pending.isEmpty() && (y.houses.isEmpty() ? random.nextInt(8) == 0 : random.nextInt(150) == 0)) {
                 pending = drawTown(random);
             }
@@ -117,11 +123,10 @@ public final class ModelTest {
         long want = y.call(name, a[0], a[1], a[2]);
         told.add(name + Arrays.toString(a) + " -> " + got);
         calls.merge(name + (want <= -101 && !name.equals("digest") ? " refused" : " answered"), 1, Integer::sum);
-        long all = x.digest();
-        if (got != want || all != y.digest()) {
+        if (got != want) {
             wrong++;
             told.forEach(System.out::println);
-            System.out.println("run " + run + ": due is " + want + ", digest " + all + ", due is " + y.digest());
+            System.out.println("run " + run + ": due is " + want);
         }
     }
 
